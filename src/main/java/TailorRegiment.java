@@ -12,6 +12,7 @@ public final class TailorRegiment {
     private static final int COATS = 6;
     /** As many sets as there are of six. */
     private static final int SETS = 64;
+    private static final int UNITS = 30;
     private static final int BOXES = 3;
     private static final int ACTS = 40;
 
@@ -41,7 +42,7 @@ public final class TailorRegiment {
     private static final int NAME = 3;
     private static final String SIGNS = ";()<>=+-*/%";
 
-    /** The words that stand for themselves, numbered from MAN on: both orders are one. */
+    /** The words that stand for themselves; their numbers go up from MAN in this order. */
     private static final String WORDS =
             "man coat ill easy bolt like rain draw tall wide grows seam or and not tight loose short long worn day ";
     private static final int MAN = 101;
@@ -520,11 +521,20 @@ public final class TailorRegiment {
             if (place >= size) {
                 kind = END;
             } else if (isLetter(place)) {
-                cutWord();
+                while (behind < size && isLetter(behind)) {
+                    behind++;
+                }
+                kind = behind - place > LETTERS ? WRONG : wordKind();
             } else if (isDigit(place)) {
-                cutNumber();
+                number = 0;
+                while (behind < size && isDigit(behind)) {
+                    number = number * 10 + bytes[behind] - '0';
+                    behind++;
+                }
+                kind = behind - place > DIGITS || isLetter(behind) ? WRONG : NUMBER;
             } else {
-                cutSign();
+                behind++;
+                kind = SIGNS.indexOf((char) (bytes[place] & 255)) >= 0 ? bytes[place] : WRONG;
             }
         }
 
@@ -534,13 +544,6 @@ public final class TailorRegiment {
 
         private boolean isDigit(int at) {
             return at >= 0 && at < size && bytes[at] >= '0' && bytes[at] <= '9';
-        }
-
-        private void cutWord() {
-            while (behind < size && isLetter(behind)) {
-                behind++;
-            }
-            kind = behind - place > LETTERS ? WRONG : wordKind();
         }
 
         private int wordKind() {
@@ -561,23 +564,6 @@ public final class TailorRegiment {
                 }
             }
             return NAME;
-        }
-
-        private void cutNumber() {
-            number = 0;
-            while (behind < size && isDigit(behind)) {
-                number = number * 10 + bytes[behind] - '0';
-                behind++;
-            }
-            kind = behind - place > DIGITS || isLetter(behind) ? WRONG : NUMBER;
-        }
-
-        private void cutSign() {
-            kind = WRONG;
-            if (place >= 0 && place < size && SIGNS.indexOf((char) (bytes[place] & 255)) >= 0) {
-                kind = bytes[place];
-            }
-            behind = place + 1;
         }
 
         boolean sameWord(int one, int other) {
@@ -608,7 +594,6 @@ public final class TailorRegiment {
         private static final int TERM = 4;
         private static final int UNIT = 5;
 
-        private static final int UNITS = 30;
         private static final int DEPTH = 7;
 
         private final Tape tape;
@@ -645,16 +630,15 @@ public final class TailorRegiment {
                 case COAT:
                     return coatLine() && closing();
                 case ILL:
-                    return illLine() && closing();
+                    return opened(ILL) && expression(WHOLE, 0) && closing();
                 case EASY:
                 case BOLT:
+                case DRAW:
                     return settingLine(MOST_NUMBER) && closing();
                 case LIKE:
                     return settingLine(MOST) && closing();
                 case RAIN:
                     return settingLine(100) && closing();
-                case DRAW:
-                    return settingLine(MOST_NUMBER) && closing();
                 default:
                     return refuse();
             }
@@ -692,7 +676,7 @@ public final class TailorRegiment {
             }
             int tall = labelled(TALL, MOST);
             int wide = tall < 0 ? NONE : labelled(WIDE, MOST);
-            int grows = wide < 0 ? NONE : perhaps(GROWS, 9);
+            int grows = wide < 0 ? NONE : tape.kind == GROWS ? labelled(GROWS, 9) : 0;
             if (grows < 0) {
                 return false;
             }
@@ -710,8 +694,8 @@ public final class TailorRegiment {
             }
             int tall = labelled(TALL, MOST);
             int wide = tall < 0 ? NONE : labelled(WIDE, MOST);
-            int seam = wide < 0 ? NONE : perhaps(SEAM, 20);
-            int worn = seam < 0 ? NONE : perhaps(WORN, MOST);
+            int seam = wide < 0 ? NONE : tape.kind == SEAM ? labelled(SEAM, 20) : 0;
+            int worn = seam < 0 ? NONE : tape.kind == WORN ? labelled(WORN, MOST) : 0;
             if (worn < 0) {
                 return false;
             }
@@ -737,14 +721,20 @@ public final class TailorRegiment {
 
         /** A word with its number; NONE behind a fault. */
         private int labelled(int word, int most) {
-            if (!taken(word)) {
+            if (tape.kind != word) {
+                refuse();
                 return NONE;
             }
+            tape.advance();
+            return numbered(most);
+        }
+
+        private int numbered(int most) {
+            int number = tape.number;
             if (tape.kind != NUMBER) {
                 refuse();
                 return NONE;
             }
-            int number = tape.number;
             if (number > most) {
                 refuseAs(NO_NUMBER);
                 return NONE;
@@ -753,38 +743,25 @@ public final class TailorRegiment {
             return number;
         }
 
-        private int perhaps(int word, int most) {
-            return tape.kind == word ? labelled(word, most) : 0;
-        }
-
-        private boolean firstTime(int word) {
+        /** Goes on behind the first word of a line that may stand once. */
+        private boolean opened(int word) {
             int bit = 1 << (word - ILL);
             if ((told & bit) != 0) {
                 return refuse();
             }
             told |= bit;
+            tape.advance();
             return true;
         }
 
         private boolean settingLine(int most) {
             int word = tape.kind;
-            if (!firstTime(word)) {
-                return false;
-            }
-            int number = labelled(word, most);
+            int number = opened(word) ? numbered(most) : NONE;
             if (number < 0) {
                 return false;
             }
             draft.set(word, number);
             return true;
-        }
-
-        private boolean illLine() {
-            if (!firstTime(ILL)) {
-                return false;
-            }
-            tape.advance();
-            return expression(WHOLE, 0);
         }
 
         /** What stands at a level, within so many others; operands come before their signs. */
@@ -868,7 +845,7 @@ public final class TailorRegiment {
 
         private final int[] kinds = new int[STEPS];
         private final int[] numbers = new int[STEPS];
-        private final int[] stack = new int[STEPS];
+        private final int[] stack = new int[UNITS];
         private final int[] facts = new int[FACTS];
         private int steps;
         private int units;
@@ -900,19 +877,17 @@ public final class TailorRegiment {
             facts[3] = Math.max(0, coatTall - manTall);
             facts[4] = worn;
             facts[5] = day;
-            int ill = steps == 0
-                    ? facts[0] * 3 + facts[1] + facts[2] * 2 + facts[3] + worn
-                    : outcome();
-            return Math.max(0, Math.min(MOST_NUMBER, ill));
-        }
-
-        private int outcome() {
+            if (steps == 0) {
+                return Math.min(MOST_NUMBER, facts[0] * 3 + facts[1] + facts[2] * 2 + facts[3] + worn);
+            }
             int top = 0;
             for (int i = 0; i < steps && i < STEPS; i++) {
                 int kind = kinds[i];
                 if (kind == NUMBER || kind >= TIGHT && kind < TIGHT + FACTS) {
-                    stack[top] = kind == NUMBER ? numbers[i] : facts[kind - TIGHT];
-                    top++;
+                    if (top < UNITS) {
+                        stack[top] = kind == NUMBER ? numbers[i] : facts[kind - TIGHT];
+                        top++;
+                    }
                 } else if (kind == NOT && top >= 1) {
                     stack[top - 1] = stack[top - 1] == 0 ? 1 : 0;
                 } else if (top >= 2) {
@@ -920,7 +895,7 @@ public final class TailorRegiment {
                     top--;
                 }
             }
-            return stack[0];
+            return Math.max(0, Math.min(MOST_NUMBER, stack[0]));
         }
 
         private static int joined(int sign, int a, int b) {
@@ -1200,10 +1175,11 @@ public final class TailorRegiment {
                 weather(wears(man), shrunk);
             }
             cells[DAY_AT]++;
-            int shed = wearers() & ~fittedMen();
+            int shed = 0;
             for (int man = 0; man < roll.men; man++) {
-                if ((shed >> man & 1) != 0) {
+                if (wears(man) != NONE && !fits(man, wears(man))) {
                     setWears(man, NONE);
+                    shed |= 1 << man;
                 }
             }
             return shed;
@@ -1426,21 +1402,15 @@ public final class TailorRegiment {
             int best = NONE;
             int most = NONE;
             for (int coat = 0; coat < roll.coats; coat++) {
-                if (now.part(TURNED_PART, coat) == 0) {
-                    int fits = turnedCount(coat);
-                    if (fits > most) {
-                        best = coat;
-                        most = fits;
-                    }
+                ahead.copy(now);
+                ahead.setPart(WORN_PART, coat, 0);
+                int fits = Integer.bitCount(ahead.fittedMen());
+                if (now.part(TURNED_PART, coat) == 0 && fits > most) {
+                    best = coat;
+                    most = fits;
                 }
             }
             return best;
-        }
-
-        private int turnedCount(int coat) {
-            ahead.copy(now);
-            ahead.setPart(WORN_PART, coat, 0);
-            return Integer.bitCount(ahead.fittedMen());
         }
 
         int fittingBy(int easy) {
