@@ -84,7 +84,7 @@ final class QuestionEdges {
     }
 
     private static int[] state(TailorRegiment x) {
-        int[] row = new int[6 * 3 + 6 * 6 + 10];
+        int[] row = new int[6 * 8 + 9];
         int at = 0;
         for (int i = 0; i < 6; i++) {
             row[at++] = x.man(i, 1);
