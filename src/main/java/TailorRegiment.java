@@ -1438,6 +1438,9 @@ public final class TailorRegiment {
 
     /** Questions of how wide and long sets are; sets are bits, so the least set comes first. */
     private static final class Cutting {
+        /** More than six coats can be tall together. */
+        private static final int TOO_LONG = 1000;
+
         private final Roll roll;
         private final Company now;
         /** The least length for each set of coats. */
@@ -1508,7 +1511,7 @@ public final class TailorRegiment {
 
         /** The first coat's row may be any: what is left beside it was reckoned before. */
         private int leastLength(int set) {
-            int least = Integer.MAX_VALUE;
+            int least = TOO_LONG;
             int first = Integer.lowestOneBit(set);
             for (int row = first; row <= set; row++) {
                 if ((row & ~set) == 0 && (row & first) != 0) {

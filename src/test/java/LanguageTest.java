@@ -1,3 +1,4 @@
+import java.io.IOException;
 import java.lang.reflect.Constructor;
 import java.lang.reflect.Executable;
 import java.lang.reflect.Field;
@@ -7,7 +8,6 @@ import java.nio.charset.StandardCharsets;
 import java.nio.file.Files;
 import java.nio.file.Path;
 import java.util.Arrays;
-import java.util.List;
 import java.util.Set;
 import java.util.TreeSet;
 import java.util.regex.Matcher;
@@ -16,16 +16,8 @@ import java.util.regex.Pattern;
 /** The face of the document, and those rules of LANGUAGE.md that a look at the file can tell. */
 public final class LanguageTest {
     private static final Check CHECK = new Check("LanguageTest");
-    private static final String FACE = """
-            int feed(int,int,int,int,int);int end(int);int regiment();int fault(int);int man(int,int);
-            int coat(int,int);int misfit(int,int);int day();int don(int,int);int doff(int);int letout(int,int);
-            int takein(int,int);int hem(int,int);int turn(int);boolean undo();boolean redo();int will(int,int,int);
-            int out(int);int fitted();int dress(int);int sewing(int,int,int);int rota(int);int change(int);
-            int front(int,int);int wings(int);int cloth();int buttons();int reach(int,int);int turning();int rags();
-            int naked();int popular(int);int law(int);int ease();int breadth();int rout();int odds(int,int);
-            int lies(int);int seen(int,boolean);boolean untell(int);int later(int);int growths(int);
-            int sure(int,int);int ask(int,int);int image(int);int back(int);int about(int)
-            """;
+    /** A method as the document's face writes it: what it answers, its name, its parameters. */
+    private static final Pattern METHOD = Pattern.compile("    public (\\w+) (\\w+)\\((.*)\\);");
 
     public static void main(String[] args) throws Exception {
         face();
@@ -40,8 +32,21 @@ public final class LanguageTest {
                 + types.substring(1, types.length() - 1).replace(" ", "") + ")";
     }
 
+    private static Set<String> documentFace() throws IOException {
+        Set<String> face = new TreeSet<>();
+        for (String line : Files.readAllLines(Path.of("../shared/DOC.md"), StandardCharsets.UTF_8)) {
+            Matcher method = METHOD.matcher(line);
+            if (method.matches()) {
+                String types = method.group(3).replaceAll(" \\w+(,|$)", "$1").replace(" ", "");
+                face.add(method.group(1) + " " + method.group(2) + "(" + types + ")");
+            }
+        }
+        return face;
+    }
+
     private static void face() throws Exception {
-        Set<String> due = new TreeSet<>(List.of(FACE.replace("\n", "").split(";")));
+        Set<String> due = documentFace();
+        CHECK.due("methods of the document's face", due.size(), 47);
         Set<String> got = new TreeSet<>();
         for (Method m : TailorRegiment.class.getDeclaredMethods()) {
             if (!Modifier.isPrivate(m.getModifiers())) {
@@ -126,11 +131,22 @@ public final class LanguageTest {
         Matcher library = Pattern.compile("\\b(import|System|Arrays|Math|Integer|Long)\\b[ .]+(\\w+(\\.\\w+)*)")
                 .matcher(code);
         Set<String> free = Set.of("java.util.Arrays", "arraycopy", "fill", "max", "min", "abs", "bitCount",
-                "lowestOneBit", "numberOfTrailingZeros", "numberOfLeadingZeros", "MAX_VALUE");
+                "lowestOneBit", "numberOfTrailingZeros", "numberOfLeadingZeros");
         while (library.find()) {
             CHECK.due("from the library: " + library.group(), free.contains(library.group(2)), true);
         }
+        made(code);
         methodLengths(file);
+    }
+
+    /** Only fields are set to something new, which constructors do: no call takes room. */
+    private static void made(String code) {
+        for (String line : code.split("\n")) {
+            if (line.contains(" new ")) {
+                boolean field = line.matches(" +(private final [\\w\\[\\]]+ )?\\w+ = new .*;");
+                CHECK.due("made for a field: " + line, field, true);
+            }
+        }
     }
 
     /** Methods of the outer class stand four deep, those of the classes inside eight. */
